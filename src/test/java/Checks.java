@@ -1,3 +1,6 @@
+import java.util.ArrayList;
+import java.util.List;
+
 /** Compares answers with those that are due, and ends a test with exit code 1 if one differs. */
 final class Checks {
     private final String test;
@@ -125,6 +128,63 @@ final class Checks {
         int[] row = new int[13];
         for (int what = 0; what < row.length; what++) {
             row[what] = x.count(what);
+        }
+        return row;
+    }
+
+    /** All that can be looked at, but for ways; two objects that differ in it are not alike. */
+    static int[] all(ZigzagLines x) {
+        List<Integer> all = new ArrayList<>();
+        add(all, counts(x));
+        all.add(x.fault());
+        add(all, underway(x));
+        for (int p = 0; p < x.count(0); p++) {
+            add(all, process(x, p));
+            for (int i = 0; i < x.process(p, 0); i++) {
+                add(all, saved(x, p, i));
+                add(all, knows(x, p, i));
+            }
+            add(all, knows(x, p, x.process(p, 0)));
+        }
+        for (int m = 0; m < x.count(2); m++) {
+            add(all, message(x, m));
+        }
+        for (int set = 0; set < 1 << x.count(0); set++) {
+            add(all, line(x, set));
+            add(all, back(x, set));
+        }
+        add(all, through(x, 0));
+        add(all, through(x, 1));
+        return plain(all);
+    }
+
+    /** The fewest messages of every way and of every cause. */
+    static int[] ways(ZigzagLines x) {
+        List<Integer> all = new ArrayList<>();
+        for (int p = 0; p < x.count(0); p++) {
+            for (int q = 0; q < x.count(0); q++) {
+                for (int i = 0; i <= x.process(p, 0); i++) {
+                    for (int j = 0; j <= x.process(q, 0); j++) {
+                        all.add(x.way(p, i, q, j));
+                        all.add(x.cause(p, i, q, j));
+                    }
+                }
+            }
+        }
+        return plain(all);
+    }
+
+    private static void add(List<Integer> all, int[] row) {
+        all.add(row.length);
+        for (int number : row) {
+            all.add(number);
+        }
+    }
+
+    private static int[] plain(List<Integer> all) {
+        int[] row = new int[all.size()];
+        for (int i = 0; i < row.length; i++) {
+            row[i] = all.get(i);
         }
         return row;
     }
