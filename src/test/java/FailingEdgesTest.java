@@ -273,6 +273,10 @@ public final class FailingEdgesTest {
         x = Checks.laid("n3;");
         CHECKS.due("2 sends", x.drive(9998, 1), 1);
         CHECKS.dueRow("1 and 1 behind it, in a ring", Checks.message(x, 0), 2, 1, 0, NONE, 0, 0);
+        // z 8058, k 1: x is 63817454, that is 974 times 65521: DRAW is 0. k 0: DRAW is 29184.
+        x = Checks.laid("n2;");
+        CHECKS.due("0 saves twice", x.drive(8058, 2), 2);
+        CHECKS.due("its K", x.process(0, 0), 3);
         // z 1845, k 0: DRAW is 3, the least that receives. z 7192: DRAW is 65519, the greatest.
         x = Checks.laid("n2;s01;s01;");
         CHECKS.due("none is ahead", x.drive(1845, 1), 1);

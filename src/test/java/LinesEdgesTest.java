@@ -193,7 +193,13 @@ public final class LinesEdgesTest {
         CHECKS.dueRow("of 1", needed, 0, 1, 1, 1);
         CHECKS.dueRow("counts", new int[] {x.process(0, 5), x.process(1, 5), x.process(2, 5),
             x.count(9)}, 1, 3, 1, 5);
-        // A state that is on a line only if two fail at once.
+        // A state that is on a line only if 0 fails, and 1 does not; and so for 1.
+        ZigzagLines only = Checks.laid("n2;s10;r00;c0;");
+        CHECKS.dueRow("of 0", new int[] {only.saved(0, 0, 4), only.saved(0, 1, 4)}, 1, 1);
+        CHECKS.due("in all", only.count(9), 3);
+        only = Checks.laid("n2;s01;r00;c1;");
+        CHECKS.dueRow("of 1", new int[] {only.saved(1, 0, 4), only.saved(1, 1, 4)}, 1, 1);
+        CHECKS.due("in all", only.count(9), 3);
         ZigzagLines y = Checks.laid("n2;s01;r00;c0;c1;");
         CHECKS.due("each one's last", y.count(9), 2);
         CHECKS.due("the first ones", y.saved(0, 0, 4) + y.saved(1, 0, 4), 0);
@@ -271,6 +277,13 @@ public final class LinesEdgesTest {
         x.pick(0, 0);
         CHECKS.dueRow("least through 0's 0", Checks.through(x, 0), 0, 0, 0);
         CHECKS.dueRow("greatest through 0's 0", Checks.through(x, 1), 0, 0, 0);
+        // From the last of a row of causes back to its first, and over zigzags in both orders.
+        ZigzagLines causes = Checks.laid("n5;s01;r00;s12;r01;s23;r02;s34;r03;c4;c3;c2;c1;c0;");
+        causes.pick(4, 1);
+        CHECKS.dueRow("least, by four", Checks.through(causes, 0), 1, 1, 1, 1, 1);
+        ZigzagLines zigzag = Checks.laid("n5;s34;r00;s23;r01;s12;r02;s01;r03;c4;c3;c2;c1;c0;");
+        zigzag.pick(4, 1);
+        CHECKS.dueRow("least, by four", Checks.through(zigzag, 0), 1, 1, 1, 1, 1);
     }
 
     private static void throughAll() {
@@ -328,6 +341,20 @@ public final class LinesEdgesTest {
         CHECKS.dueRow("at K", Checks.through(x, 0), 1, 3, 0);
         CHECKS.due("another in place of it", x.pick(1, 0), 2);
         CHECKS.dueRow("through that", Checks.through(x, 0), 1, 0, 0);
+        // It may be a state of any process, and none that is asked for.
+        for (int p = 0; p < 5; p++) {
+            ZigzagLines each = Checks.laid("n5;");
+            int q = (p + 1) % 5;
+            each.send(q, p);
+            each.receive(0);
+            each.save(p);
+            each.pick(p, 2);
+            CHECKS.due("at K", each.through(1, p), 2);
+            each.fail(1 << q);
+            CHECKS.dueRow("above K: " + p, Checks.through(each, 1), NO, NO, NO, NO, NO);
+            each.pick(p, 1);
+            CHECKS.dueRow("at K again", Checks.through(each, 1), 1, 1, 1, 1, 1);
+        }
         // The two that are not above K have no line, but NO comes ahead of NONE.
         ZigzagLines z = Checks.laid("n3;s01;r00;c1;c1;c0;s12;r01;c2;c2;");
         z.pick(0, 0);

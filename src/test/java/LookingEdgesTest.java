@@ -145,6 +145,17 @@ public final class LookingEdgesTest {
             CHECKS.due("way from " + i, x.way(0, i, 1, 1), i <= 2 ? 1 : NONE);
             CHECKS.due("cause from " + i, x.cause(0, i, 1, 1), i <= 2 ? 1 : NONE);
         }
+        // Sent right ahead of the state, and right behind it.
+        ZigzagLines ahead = Checks.laid("n2;s01;c0;r00;");
+        CHECKS.due("right ahead", ahead.way(0, 1, 1, 1), NONE);
+        CHECKS.due("right ahead", ahead.cause(0, 1, 1, 1), NONE);
+        ZigzagLines behind = Checks.laid("n2;c0;s01;r00;");
+        CHECKS.due("right behind", behind.way(0, 1, 1, 1), 1);
+        CHECKS.due("right behind", behind.cause(0, 1, 1, 1), 1);
+        ZigzagLines forced = Checks.laid("n2;m3;s01;s10;r00;r01;");
+        CHECKS.due("right ahead of a forced one", forced.way(1, 1, 0, 2), NONE);
+        CHECKS.due("right ahead of a forced one", forced.cause(1, 1, 0, 2), NONE);
+        CHECKS.due("from the one ahead of it", forced.cause(1, 0, 0, 2), 1);
     }
 
     /** "the last one RECEIVED by q in a STRETCH lower than j" */

@@ -164,6 +164,12 @@ public final class TextEdgesTest {
             String figures = (m < 10 ? "0" : "") + m;
             fault(sends + "r" + figures + ";", m < 48 ? NONE : 195);
         }
+        // Signs next to the figures are none, though their numbers would do.
+        only(sends + "r0", ";", "0123456789", 195);
+        only(sends + "r1", ";", "0123456789", 195);
+        only(sends + "r4", ";", "01234567", 195);
+        only(sends + "r", "0;", "01234", 195);
+        only(sends + "r", "8;", "0123", 195);
         ZigzagLines x = fault(sends + "r47;", NONE);
         CHECKS.due("the last one is received", x.message(47, 5), 1);
         CHECKS.due("the one ahead is not", x.message(46, 5), 0);
