@@ -281,21 +281,21 @@ public final class ZigzagLines {
             case 3: return world.countStage(UNDER_WAY);
             case 4: return world.countStage(RECEIVED);
             case 5: return world.countStage(GONE);
-            case 6: return countOverProcesses(0);
-            case 7: return countOverProcesses(2);
-            case 8: return countOverProcesses(4);
+            case 6: return world.countKept();
+            case 7: return world.countForced();
+            case 8: return countAllIdle();
             case 9: return lines.countNeeded(world, 0, world.processes);
-            case 10: return countOverProcesses(3);
+            case 10: return world.countFreed();
             case 11: return picks.size();
             case 12: return text.length;
             default: return BAD;
         }
     }
 
-    private int countOverProcesses(int what) {
+    private int countAllIdle() {
         int sum = 0;
         for (int p = 0; p < world.processes; p++) {
-            sum += process(p, what);
+            sum += countIdle(p);
         }
         return sum;
     }
@@ -460,7 +460,7 @@ public final class ZigzagLines {
         }
 
         void keepState(int self, int newMark, boolean byForce, int moment) {
-            if (isFull()) {
+            if (kept >= MOST_SAVED) {
                 return;
             }
             mark = newMark;
@@ -730,6 +730,30 @@ public final class ZigzagLines {
                     int other = (actor + far % (processes - 1) + 1) % processes;
                     return post(actor, other) >= 0;
             }
+        }
+
+        int countKept() {
+            int sum = 0;
+            for (int p = 0; p < processes; p++) {
+                sum += actors[p].kept;
+            }
+            return sum;
+        }
+
+        int countForced() {
+            int sum = 0;
+            for (int p = 0; p < processes; p++) {
+                sum += actors[p].countForced();
+            }
+            return sum;
+        }
+
+        int countFreed() {
+            int sum = 0;
+            for (int p = 0; p < processes; p++) {
+                sum += actors[p].countFreed();
+            }
+            return sum;
         }
 
         int countStage(int stage) {

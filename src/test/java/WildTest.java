@@ -1,8 +1,12 @@
 import java.util.Random;
 
-/** Wild numbers in drawn calls: each call answers, none throws, and a refused call changes nothing. */
+/**
+ * Wild numbers in drawn calls: each call answers, none throws, and a refused call changes nothing.
+ * A second object hears only the calls that were not refused, and stays like the first one.
+ */
 public final class WildTest {
     private static final Checks CHECKS = new Checks("WildTest");
+    private static final int LAY = 3;
     private static final int[] WILD = {Integer.MIN_VALUE, Integer.MIN_VALUE + 1, -1000000, -65, -61,
         -32, -13, -5, -2, -1, 0, 1, 2, 3, 4, 5, 6, 7, 8, 11, 12, 13, 30, 31, 32, 33, 59, 60, 61, 63,
         64, 126, 127, 200, 9999, 10000, 65536, Integer.MAX_VALUE - 1, Integer.MAX_VALUE};
@@ -11,19 +15,30 @@ public final class WildTest {
         for (int seed = 0; seed < 300; seed++) {
             Random random = new Random(seed);
             ZigzagLines x = new ZigzagLines();
+            ZigzagLines spared = new ZigzagLines();
             for (int step = 0; step < 512; step++) {
-                int kind = random.nextInt(25);
-                int[] ahead = Checks.counts(x);
-                int answer = call(x, kind, random);
-                CHECKS.due("seed " + seed + " step " + step + " answers at least NONE",
-                        Math.min(answer, ZigzagLines.NONE), ZigzagLines.NONE);
-                if (answer < 0) {
-                    CHECKS.dueRow("seed " + seed + " step " + step + " is refused",
-                            Checks.counts(x), ahead);
+                step("seed " + seed + " step " + step, x, spared, random.nextLong());
+                if (step % 32 == 31) {
+                    CHECKS.dueRow("seed " + seed + " step " + step + " both", Checks.all(x),
+                            Checks.all(spared));
                 }
             }
+            CHECKS.dueRow("seed " + seed + " ways", Checks.ways(x), Checks.ways(spared));
         }
         CHECKS.end();
+    }
+
+    private static void step(String at, ZigzagLines x, ZigzagLines spared, long draw) {
+        int kind = new Random(draw).nextInt(25);
+        int[] ahead = Checks.counts(x);
+        int answer = call(x, kind, new Random(~draw));
+        CHECKS.due(at + " answers at least NONE", Math.min(answer, ZigzagLines.NONE),
+                ZigzagLines.NONE);
+        if (answer >= 0 || kind == LAY) {
+            CHECKS.due(at + " answers alike", call(spared, kind, new Random(~draw)), answer);
+        } else {
+            CHECKS.dueRow(at + " is refused", Checks.counts(x), ahead);
+        }
     }
 
     private static int number(Random random) {
@@ -45,7 +60,7 @@ public final class WildTest {
             case 0: return x.write(letter(random));
             case 1: return random.nextInt(8) == 0 ? x.wipe() : x.write(letter(random));
             case 2: return x.fault();
-            case 3: return layed(x, random);
+            case LAY: return layed(x, random);
             case 4: return x.mode(a);
             case 5: return x.save(a);
             case 6: return x.send(a, b);
@@ -69,7 +84,7 @@ public final class WildTest {
         }
     }
 
-    /** Lays what stands, or now and then a text of another number of processes. */
+    /** Lays what stands, or now and then a text that it writes first, so both objects hear it. */
     private static int layed(ZigzagLines x, Random random) {
         if (random.nextInt(6) == 0) {
             x.wipe();
