@@ -6,6 +6,7 @@ import com.sun.source.tree.LambdaExpressionTree;
 import com.sun.source.tree.MemberReferenceTree;
 import com.sun.source.tree.MethodInvocationTree;
 import com.sun.source.tree.MethodTree;
+import com.sun.source.tree.NewArrayTree;
 import com.sun.source.tree.NewClassTree;
 import com.sun.source.tree.SynchronizedTree;
 import com.sun.source.tree.ThrowTree;
@@ -30,7 +31,7 @@ import javax.tools.JavaCompiler;
 import javax.tools.StandardJavaFileManager;
 import javax.tools.ToolProvider;
 
-/** Rules of LANGUAGE.md that need the compiler's own reading of the source: 2, 4, 5, 6, 8, 11. */
+/** Rules of LANGUAGE.md that need the compiler's own reading of it: 2, 4, 5, 6, 8, 11, 12. */
 public final class RulesTest extends TreePathScanner<Void, Void> {
     private static final Checks CHECKS = new Checks("RulesTest");
     private static final Path SOURCE = Path.of("src/main/java/ZigzagLines.java");
@@ -175,8 +176,22 @@ public final class RulesTest extends TreePathScanner<Void, Void> {
         if (tree.getClassBody() != null) {
             never("an anonymous class", tree);
         }
+        onlyInConstructors(tree);
         call(trees.getElement(getCurrentPath()));
         return super.visitNewClass(tree, none);
+    }
+
+    @Override
+    public Void visitNewArray(NewArrayTree tree, Void none) {
+        onlyInConstructors(tree);
+        return super.visitNewArray(tree, none);
+    }
+
+    /** Rule 12 counts what a run makes; the class makes all in constructors, as README.md says. */
+    private void onlyInConstructors(Tree made) {
+        if (caller != null && caller.getKind() != ElementKind.CONSTRUCTOR) {
+            never("an object that is made outside a constructor", made);
+        }
     }
 
     private void call(Element called) {
