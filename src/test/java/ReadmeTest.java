@@ -135,7 +135,7 @@ public final class ReadmeTest {
 
     private static Map<String, Set<String>> toldRefusals(List<String> page) {
         Map<String, Set<String>> told = new TreeMap<>();
-        for (String row : tableBehind(page, "| call | answers that are none of a number |")) {
+        for (String row : tableBehind(page, "| call | what it answers beside a number |")) {
             String[] cells = row.split("\\|", -1);
             Set<String> answers = new TreeSet<>();
             for (Matcher word = Pattern.compile("`(\\w+)`").matcher(cells[2]); word.find();) {
